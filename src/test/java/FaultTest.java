@@ -16,6 +16,7 @@ public final class FaultTest {
         openOnes();
         tooMany();
         theFirstAlongTheText();
+        goodOnesBehind();
         allStays();
         allIsAsAtFirst();
         Check.finish();
@@ -176,6 +177,7 @@ public final class FaultTest {
         Check.good(P + "person q strong 1 chair 1 wide 3 at a;", 3);
         Check.fault(PQ + "person r strong 1 chair 1 wide 2 at a", 3, 134);
         Check.good(PQ + "person r strong 1 chair 1 wide 1 at a;", 4);
+        Check.good(PQ + "room b door 3 floor 1;person r strong 1 chair 1 wide 1 at b;", 5);
         String four = "room a door 9 floor 99;person p strong 1 chair 1 wide 1 at a;person q strong 1 chair 1 wide 1 at a;"
             + "person r strong 1 chair 1 wide 1 at a;person s strong 1 chair 1 wide 1 at a;joined q r;";
         Check.fault(four + "joined p q", 3, four.length() + 9);
@@ -221,6 +223,14 @@ public final class FaultTest {
         Check.good("slow if(not [not [not (1)=1]],1,2);", 1);
         Check.good("slow min(max(min(max(min(max(min(1,2),2),2),2),2),2),2);", 1);
         Check.fault("slow min(max(min(max(min(max(min(max(1,2)", 5, 36);
+        // the brackets of min, max and if are open in each of their parts
+        Check.good("slow min(1,((((((1))))))+1);", 1);
+        Check.fault("slow min(1,(((((((1)))))))+1);", 5, 17);
+        Check.good("slow if(all,((((((1)))))),((((((1)))))));", 1);
+        Check.fault("slow if(all,(((((((1))))))),1);", 5, 18);
+        Check.fault("slow if(all,1,(((((((1))))))));", 5, 20);
+        Check.fault("slow if(1<(((((((1))))))),1,1);", 5, 16);
+        Check.fault("slow if((((((((1)))))))<1,1,1);", 5, 14);
         Check.fault("stands ((((((((1", 5, 14);
         Check.fault("slow 1;stands if(not if(not [not (1", 1, 35);
         Check.fault("slow 1;stands if(not if(not [not ((1", 5, 34);
@@ -263,6 +273,31 @@ public final class FaultTest {
         Check.fault("carpenter x abcdefgh", 3, 10);
         Check.fault("room a door 3 floor 5 abcdefgh", 1, 28);
         Check.fault(A + "person p strong 5 chair 5 wide 4 at a 12345", 3, 58);
+    }
+
+    /** A fault is one, though all that follows be good. */
+    private static void goodOnesBehind() {
+        String[] sums = {"1*", "1/", "1%", "1+", "1-", "(1", "min(1,2", "if(all,1,2", "if(all or,1,2)", "if(all and,1,2)",
+            "if(not,1,2)", "if([all,1,2)", "if(1<,1,2)", "if(1,1,2)", "if(,1,2)", "if(all,,2)", "if(all,1,)", "min(,1)",
+            "max(1,)", "()", "if(or all,1,2)", "1 1", "min", "room"};
+        for (String sum : sums) {
+            OwnChair x = new OwnChair();
+            Check.due("slow " + sum, Check.town(x, "slow " + sum + ";breaks 5;"), -1);
+            Check.due("slow " + sum + " fault(0)", x.fault(0), 1);
+        }
+        String[] statements = {"room c door 0 floor 5", "room c door 5 floor 0", "room a door 5 floor 5", "room c door 5",
+            "way x a takes 5", "way a x takes 5", "way a a takes 5", "way a b takes 0", "way a b",
+            "person p strong 1 chair 1 wide 1 at a", "person r strong 0 chair 1 wide 1 at a",
+            "person r strong 1 chair 0 wide 1 at a", "person r strong 1 chair 1 wide 0 at a",
+            "person r strong 1 chair 1 wide 1 at x", "person r strong 1 chair 1 wide 1 in a",
+            "person r strong 1 chair 1 wide 1", "person r strong 1 chair 1 wide 9 at a", "joined p x", "joined x p",
+            "joined p p", "joined p", "breaks 101", "breaks", "carpenter x", "carpenter p", "carpenter", "stands", "slow 1"};
+        for (String statement : statements) {
+            OwnChair x = new OwnChair();
+            Check.due(statement, Check.town(x, PQ + "room b door 3 floor 5;slow 1;" + statement + ";breaks 5;"), -1);
+            Check.due(statement + " fault(0)", x.fault(0) > 0, true);
+            Check.due(statement + " has(0)", x.has(0), 0);
+        }
     }
 
     private static void allStays() {
@@ -329,5 +364,16 @@ public final class FaultTest {
         Check.due("no carpenter", x.has(3), -1);
         Check.due("no breaks", x.has(2), 0);
         Check.due("no slow", x.takes(0, 1, 0), 3);
+        // two more towns, so that what either of the earlier ones left would be seen
+        Check.due("with sums", Check.town(x, AB + "way a b takes 3;slow 50;stands 60;carpenter a;breaks 9;"), 7);
+        Check.due("with nothing", Check.town(x, AB + "person p strong 1 chair 9 wide 1 at a;"), 3);
+        Check.due("no way", x.way(0, 1), -1);
+        Check.due("with sums", Check.town(x, AB + "way a b takes 3;slow 50;stands 60;carpenter a;breaks 9;"), 7);
+        Check.due("without sums", Check.town(x, AB + "way a b takes 1;person p strong 1 chair 9 wide 1 at a;"), 4);
+        Check.due("no slow of another town", x.takes(0, 1, 0), 1);
+        x.go(0, 1, -1);
+        Check.due("no stands of another town", x.stay(0, 4), 4);
+        Check.due("no carpenter of another town", x.has(3), -1);
+        Check.due("no breaks of another town", x.has(2), 0);
     }
 }
