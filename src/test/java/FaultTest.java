@@ -17,6 +17,7 @@ public final class FaultTest {
         tooMany();
         theFirstAlongTheText();
         goodOnesBehind();
+        fullTexts();
         allStays();
         allIsAsAtFirst();
         Check.finish();
@@ -298,6 +299,22 @@ public final class FaultTest {
             Check.due(statement + " fault(0)", x.fault(0) > 0, true);
             Check.due(statement + " has(0)", x.has(0), 0);
         }
+    }
+
+    /** Texts that fill the tape to its last byte. */
+    private static void fullTexts() {
+        Check.good("slow " + times("1+", 796) + "12;", 1);
+        Check.good("slow " + times("1*", 796) + "12;", 1);
+        Check.fault("slow " + times("1+", 795) + "12345", 1, 1599);
+        Check.fault("slow " + times("1+", 796) + "123", 1, 1600);
+        Check.fault("slow " + times("1+", 797) + "1", 1, 1600);
+        Check.fault("slow " + times("1+", 795) + "takes", 1, 1600);
+        Check.fault(times(" ", 1599) + "a", 1, 1599);
+        Check.fault(times(" ", 1593) + "sevenab", 1, 1599);
+        Check.fault(times(" ", 1595) + "room\n", 1, 1600);
+        Check.fault("slow 1;" + times("\n", 1589) + "slow", 6, 1596);
+        Check.good(times(" ", 1600), 0);
+        Check.good(times(" \n", 796) + "slow 10;", 1);
     }
 
     private static void allStays() {

@@ -1,8 +1,10 @@
+import java.lang.reflect.Array;
 import java.lang.reflect.Field;
 import java.lang.reflect.Modifier;
 import java.nio.file.Files;
 import java.nio.file.Path;
 import java.util.ArrayList;
+import java.util.IdentityHashMap;
 import java.util.List;
 import java.util.Set;
 import java.util.TreeSet;
@@ -25,6 +27,8 @@ public final class LanguageTest {
         library(code);
         methods(code);
         fields(code);
+        madeOnce(code);
+        room();
         Check.due("signs above 127", text.chars().filter(c -> c > 127).count(), 0);
         Check.due("classes", count(code, "\\bclass \\w+"), 12);
         Check.finish();
@@ -119,5 +123,45 @@ public final class LanguageTest {
             fields += Modifier.isStatic(field.getModifiers()) ? 0 : 1;
         }
         Check.due("fields of " + type.getName() + ": " + fields, fields <= 20, true);
+    }
+
+    /** Objects and arrays are made by fields alone, so that no call makes any (but for a sum that outgrows its row). */
+    private static void madeOnce(String code) {
+        int inside = code.indexOf("static final class");
+        Matcher made = Pattern.compile("(?m)^( *)(.*)\\bnew \\w").matcher(code);
+        while (made.find()) {
+            int indent = made.group(1).length();
+            Check.due("made once: " + made.group(2), indent, made.start() < inside ? 4 : 8);
+        }
+        Check.due("copies", count(code, "copyOf\\("), 1);
+    }
+
+    /** 512 objects of a run must find room: 7.3 million elements, 600,000 objects. */
+    private static void room() throws IllegalAccessException {
+        int[] sizes = new int[2];
+        measure(new OwnChair(), sizes, new IdentityHashMap<>());
+        Check.due("objects of one: " + sizes[0], sizes[0] <= 100, true);
+        Check.due("elements of one: " + sizes[1], sizes[1] <= 9000, true);
+    }
+
+    private static void measure(Object object, int[] sizes, IdentityHashMap<Object, Object> seen)
+        throws IllegalAccessException {
+        if (object == null || seen.put(object, object) != null) {
+            return;
+        }
+        sizes[0]++;
+        if (object.getClass().isArray()) {
+            sizes[1] += Array.getLength(object);
+            return;
+        }
+        for (Field field : object.getClass().getDeclaredFields()) {
+            if (!Modifier.isStatic(field.getModifiers())) {
+                sizes[1]++;
+                field.setAccessible(true);
+                if (!field.getType().isPrimitive()) {
+                    measure(field.get(object), sizes, seen);
+                }
+            }
+        }
     }
 }

@@ -44,6 +44,8 @@ public final class SumTest {
         due("min(3,8)+max(3,8)", 11);
         due("min(8,3)*10+max(8,3)", 38);
         due("0007+0008", 15);
+        due("1+".repeat(700) + "1", 701);
+        due("1-".repeat(300) + "1+" + "3+".repeat(200) + "1", 1 - 299 - 1 + 600 + 1);
     }
 
     private static void quotients() {

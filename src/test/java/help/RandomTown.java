@@ -1,6 +1,8 @@
 import java.util.ArrayList;
 import java.util.List;
 import java.util.Random;
+import java.util.regex.Matcher;
+import java.util.regex.Pattern;
 
 /** Texts by a seed: most of them TOWNS, some with one thing wrong. */
 final class RandomTown {
@@ -155,7 +157,9 @@ final class RandomTown {
         int times = among(1, 2);
         for (int i = 0; i < times && text.length() > 0; i++) {
             int at = random.nextInt(text.length());
-            switch (random.nextInt(6)) {
+            switch (random.nextInt(8)) {
+                case 6: replaceNumber(text); break;
+                case 7: openMany(text); break;
                 case 0: text.deleteCharAt(at); break;
                 case 1: text.setLength(at); break;
                 case 2: text.setCharAt(at, WORDS[random.nextInt(WORDS.length)].charAt(0)); break;
@@ -179,6 +183,34 @@ final class RandomTown {
         String[] tokens = text.toString().split("[^a-z0-9]+");
         boolean known = random.nextBoolean() && tokens.length > 0;
         text.replace(first, last, known ? tokens[random.nextInt(tokens.length)] : WORDS[random.nextInt(WORDS.length)]);
+    }
+
+    private void replaceNumber(StringBuilder text) {
+        int[] edges = {0, 1, 2, 9, 10, 11, 60, 61, 99, 100, 101, 999, 9999};
+        Matcher number = Pattern.compile("\\d+").matcher(text.toString());
+        int skip = random.nextInt(30);
+        while (number.find()) {
+            if (skip-- == 0) {
+                text.replace(number.start(), number.end(), String.valueOf(edges[random.nextInt(edges.length)]));
+                return;
+            }
+        }
+    }
+
+    /** Some more ( [ not at the place of a part or a fact. */
+    private void openMany(StringBuilder text) {
+        int at = Math.max(text.indexOf("slow "), text.indexOf("stands ") + 2) + 5;
+        StringBuilder opened = new StringBuilder();
+        StringBuilder closed = new StringBuilder();
+        int many = among(1, 8);
+        for (int i = 0; i < many; i++) {
+            boolean test = random.nextBoolean();
+            opened.append(test ? random.nextBoolean() ? "if(not " : "if([" : "(");
+            String behind = opened.toString().endsWith("[") ? "1=1]" : "1=1";
+            opened.append(test ? behind + ",1," : "");
+            closed.append(")");
+        }
+        text.insert(Math.min(text.length(), at), opened + "2" + closed + "+");
     }
 
     private void repeatStatement(StringBuilder text, int at) {
