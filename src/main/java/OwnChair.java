@@ -1307,7 +1307,7 @@ public final class OwnChair {
         }
 
         boolean admits(int room, int chair) {
-            return town.doorWidth(chair) <= town.door[room]
+            return town.isRoom(room) && town.isPerson(chair) && town.doorWidth(chair) <= town.door[room]
                 && load(room, chair) + town.width[chair] <= town.floor[room];
         }
 
@@ -1611,7 +1611,8 @@ public final class OwnChair {
         int ways = 0;
 
         boolean isTold(Scene scene, Tape tape, int person) {
-            if (!scene.town.isPerson(person) || tape.length < 2 || tape.length > 2 * MOST_WAYS || tape.length % 2 != 0) {
+            boolean hasRows = tape.length >= 2 && tape.length <= 2 * MOST_WAYS && tape.length % 2 == 0;
+            if (!scene.town.isPerson(person) || !hasRows) {
                 return false;
             }
             int at = scene.roomOf(person);
