@@ -4,6 +4,7 @@ import java.nio.charset.StandardCharsets;
 final class Check {
     private static int wrong = 0;
     private static int asked = 0;
+    private static String about = "";
 
     private Check() {
     }
@@ -13,9 +14,14 @@ final class Check {
         if (got != want) {
             wrong++;
             if (wrong <= 40) {
-                System.out.println(call + " answered " + got + ", due is " + want);
+                System.out.println(about + call + " answered " + got + ", due is " + want);
             }
         }
+    }
+
+    /** The document's own words that the answers from here on are held against. */
+    static void sentence(String words) {
+        about = "'" + words + "': ";
     }
 
     static void due(String call, boolean got, boolean want) {
@@ -75,6 +81,12 @@ final class Check {
         due("fault(1) of '" + text + "'", x.fault(1), place);
         due("status(1) of '" + text + "'", x.status(1), 1);
         due("has(0) of '" + text + "'", x.has(0), 0);
+    }
+
+    /** A text with a fault where ^ stands, which is itself no part of the text. */
+    static void faultAt(int kind, String text) {
+        int place = text.indexOf('^');
+        fault(text.substring(0, place) + text.substring(place + 1), kind, place);
     }
 
     /** A text without a fault. */
