@@ -22,6 +22,7 @@ public final class BoundsActTest {
         days();
         refusedDays();
         dayByDay();
+        daysOfOneMinute();
         daysWithoutWays();
         keptOnes();
         lastForty();
@@ -345,6 +346,31 @@ public final class BoundsActTest {
         }
     }
 
+    /** The shortest way there can be is one to go by, too. */
+    private static void daysOfOneMinute() {
+        Check.sentence("to go a DRAW of the ROOMS to which there is a way from his, by numbers");
+        OwnChair x = Check.made("room a door 9 floor 9;room b door 9 floor 9;room c door 9 floor 9;way a c takes 1;way a b takes 1;" + P);
+        long seed = 1;
+        int room = 0;
+        int carried = 0;
+        int clock = 0;
+        for (int day = 0; day < 30; day++) {
+            seed = next(seed);
+            long choice = seed / 64 % 3;
+            clock += choice == 2 ? 10 : 0;
+            if (choice == 1) {
+                seed = next(seed);
+                room = room == 0 ? 1 + (int) (seed / 64 % 2) : 0;
+                carried++;
+                clock++;
+            }
+        }
+        Check.due("days(30)", x.days(30), carried);
+        Check.due("his ROOM", x.person(0, 0), room);
+        Check.due("his CLOCK", x.person(0, 4), clock);
+        Check.due("the seed", x.has(10), seed);
+    }
+
     private static void daysWithoutWays() {
         Check.sentence("(without ways no DRAW, nothing)");
         OwnChair x = Check.made("room a door 9 floor 9;" + P + Q);
@@ -374,6 +400,34 @@ public final class BoundsActTest {
             }
         }
         Check.due("a way without a chair is none", x.has(8), 3);
+        keptOfEight();
+    }
+
+    /** Whose, by whom and to which ROOM at their first and last: every one of eight carries every one of eight chairs. */
+    private static void keptOfEight() {
+        StringBuilder text = new StringBuilder();
+        for (int i = 0; i < 8; i++) {
+            text.append("room r").append((char) ('a' + i)).append(" door 9 floor 99;");
+        }
+        for (int i = 1; i < 8; i++) {
+            text.append("way ra r").append((char) ('a' + i)).append(" takes ").append(i == 1 ? 1 : 60).append(";");
+        }
+        for (int i = 0; i < 8; i++) {
+            text.append("person p").append((char) ('a' + i)).append(" strong 1 chair 1 wide 1 at ra;");
+        }
+        for (int by = 0; by < 8; by++) {
+            OwnChair x = Check.made(text + "slow 9999;");
+            for (int whose = 0; whose < 8; whose++) {
+                int to = 1 + (by + whose) % 7;
+                x.go(by, to, whose);
+                x.go(by, 0, -1);
+                Check.due("whose", x.kept(whose, 0), whose);
+                Check.due("by whom", x.kept(whose, 1), by);
+                Check.due("to which ROOM", x.kept(whose, 2), to);
+                Check.due("minutes", x.kept(whose, 3), to == 1 ? 1000 : 1059);
+                Check.due("no ACHE comes of it", x.has(7), 0);
+            }
+        }
     }
 
     private static void lastForty() {

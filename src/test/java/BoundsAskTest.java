@@ -80,6 +80,18 @@ public final class BoundsAskTest {
         Check.due("all are broken", x.has(5), 8);
         Check.due("the latest CLOCK", x.has(6), 99999);
         Check.due("ACHES together are more than one may have", x.has(7), 8 * 99999);
+        // the latest CLOCK may be anyone's, and no ACHE is taken for one
+        for (int late = 0; late < 8; late++) {
+            int[] other = new int[73];
+            for (int i = 0; i < 8; i++) {
+                int[] row = {i, i, 0, 0, i == late ? 4 : 3, i, 1, 0, i};
+                System.arraycopy(row, 0, other, 9 * i, 9);
+            }
+            Check.due("on", Check.on(x, Check.sealed(other)), true);
+            Check.due("the latest CLOCK is that of " + late, x.has(6), 1024 + late);
+            Check.due("ACHES together", x.has(7), 8 * 65536 + 28);
+            Check.due("none is broken", x.has(5), 0);
+        }
     }
 
     private static void letters() {

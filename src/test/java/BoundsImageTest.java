@@ -68,6 +68,7 @@ public final class BoundsImageTest {
         for (int k = 0; k < 37; k++) {
             Check.due("octet(" + k + ")", x.octet(k), due[k]);
         }
+        eightUnlike();
         // 99999 is 1, 134, 159, at each place
         OwnChair most = Check.made(people(1));
         Check.due("on", Check.on(most, Check.sealed(0, 0, 1, 1, 134, 159, 1, 134, 159, 0)), true);
@@ -76,6 +77,35 @@ public final class BoundsImageTest {
         int[] image = Check.image(most);
         Check.due("the higher first", image[3] * 1000000 + image[4] * 1000 + image[5], 1134159);
         Check.due("the higher first again", image[6] * 1000000 + image[7] * 1000 + image[8], 1134159);
+    }
+
+    /** Eight people, each with numbers of his own, so that no one's can be taken for another's. */
+    private static void eightUnlike() {
+        StringBuilder text = new StringBuilder();
+        for (int i = 0; i < 8; i++) {
+            text.append("room r").append((char) ('a' + i)).append(" door 9 floor 99;");
+        }
+        for (int i = 0; i < 8; i++) {
+            text.append("person p").append((char) ('a' + i)).append(" strong 1 chair 1 wide 9 at ra;");
+        }
+        OwnChair x = Check.made(text.toString());
+        for (int odd = 0; odd < 2; odd++) {
+            int[] image = new int[73];
+            for (int i = 0; i < 8; i++) {
+                int[] row = {7 - i, (i + 3) % 8, (i + odd) % 2, 1, i, 100 + i, 0, 255 - i, 200 + i};
+                System.arraycopy(row, 0, image, 9 * i, 9);
+            }
+            Check.due("on", Check.on(x, Check.sealed(image)), true);
+            for (int i = 0; i < 8; i++) {
+                Check.due("ROOM of " + i, x.person(i, 0), 7 - i);
+                Check.due("chair of " + i, x.person(i, 1), (i + 3) % 8);
+                Check.due("broken " + i, x.person(i, 2), (i + odd) % 2);
+                Check.due("CLOCK of " + i, x.person(i, 4), 65536 + 256 * i + 100 + i);
+                Check.due("ACHE of " + i, x.person(i, 5), 256 * (255 - i) + 200 + i);
+            }
+            Check.due("it comes back as it was", Arrays.equals(Check.image(x), image), true);
+            Check.due("nothing is KEPT", x.has(8), 0);
+        }
     }
 
     private static void octets() {

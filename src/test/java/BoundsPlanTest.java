@@ -89,6 +89,8 @@ public final class BoundsPlanTest {
             OwnChair x = Check.made("room a door 9 floor 9;room b door " + door + " floor 9;room c door 9 floor 9;way a b takes 1;"
                 + "way b c takes 1;way a c takes 50;" + P);
             Check.due("2 through " + door, x.route(0, 0, 2, -1), door >= 2 ? 2 : 50);
+            Check.due("by b, a way of one minute", x.route(0, 0, 2, 0), door >= 2 ? 1 : 2);
+            Check.due("and another one", x.route(0, 0, 2, 1), door >= 2 ? 2 : -1);
             Check.due("to b itself", x.route(0, 0, 1, -1), door >= 2 ? 1 : -1);
         }
     }
@@ -246,6 +248,9 @@ public final class BoundsPlanTest {
         }
         OwnChair x = Check.made(ROW.replace("takes 2", "takes 60") + P + "slow 9999;");
         due(x, 0, 12 * 1059, "111111111111", rows(12, 1));
+        OwnChair eight = Check.made(rowOfEight() + "person p strong 1 chair 1 wide 1 at rg;slow 1;");
+        due(eight, 0, 12 * 60 + 3, "100000000110", 7, 1, 6, 0, 5, 0, 6, 0, 5, 0, 4, 0, 5, 0, 6, 0, 7, 1, 6, 0, 5, 1, 4, 0);
+        due(eight, 0, 12 * 60 + 12, "111111111111", 7, 1, 6, 1, 7, 1, 6, 1, 7, 1, 6, 1, 7, 1, 6, 1, 7, 1, 6, 1, 7, 1, 6, 1);
         Check.sentence("AN ERRAND of one is a row of ROOMS, each one way from the one ahead of it (he is in the first one's neighbour "
             + "now), 12 at most, each told with 1 if he must SIT there, else 0");
         OwnChair y = Check.made(ROW + P);
@@ -407,6 +412,9 @@ public final class BoundsPlanTest {
         Check.due("one in c", Check.standing(x, 2, 1), 4);
         Check.due("where p is in c", x.where(0, 2), 2);
         Check.due("where p is in a", x.where(0, 0), 1);
+        Check.due("where q is in c", x.where(1, 2), 2);
+        Check.due("where q is in a", x.where(1, 0), 1);
+        Check.due("where q is in b", x.where(1, 1), 1);
         Check.due("none anywhere", Check.standing(x, 0, 0, 1, 0, 2, 0), 1);
         Check.due("one in a, one in b", Check.standing(x, 0, 1, 1, 1), 1);
         OwnChair joined = Check.made(rooms + person("p", 1, "a") + person("q", 1, "b") + "joined p q;");
@@ -435,6 +443,28 @@ public final class BoundsPlanTest {
         Check.due("the most ways: nobody ever stands in a", Check.standing(x, 0, 0), 16777216);
         Check.due("in how many one is in the first", x.where(7, 0), 2097152);
         Check.due("one in each but a", Check.standing(x, 1, 1, 2, 1, 3, 1, 4, 1, 5, 1, 6, 1, 7, 1, 0, 0), 40320);
+        oneInEach();
+    }
+
+    /** Pairs whose chairs are apart stand wherever they are: one in each of eight ROOMS. */
+    private static void oneInEach() {
+        StringBuilder apart = new StringBuilder(rowOfEight());
+        for (int i = 0; i < 8; i++) {
+            apart.append(person("p" + (char) ('a' + i), 1, i % 2 == 0 ? "ra" : "rb"));
+        }
+        OwnChair x = Check.made(apart + "joined pa pb;joined pc pd;joined pe pf;joined pg ph;");
+        Check.due("nobody sits", x.has(4), 0);
+        Check.due("one in each of eight", Check.standing(x, 0, 1, 1, 1, 2, 1, 3, 1, 4, 1, 5, 1, 6, 1, 7, 1), 40320);
+        for (int person = 0; person < 8; person++) {
+            for (int room = 0; room < 8; room++) {
+                Check.due("where(" + person + ", " + room + ")", x.where(person, room), 5040);
+            }
+        }
+        Check.due("two in each of four", Check.standing(x, 4, 2, 5, 2, 6, 2, 7, 2), 2520);
+        Check.due("where(7, 7)", x.where(7, 7), 630);
+        Check.due("where(0, 4)", x.where(0, 4), 630);
+        Check.due("eight in the first", Check.standing(x, 0, 8), 1);
+        Check.due("where(7, 0)", x.where(7, 0), 1);
     }
 
     private static void standingCounts() {
@@ -444,7 +474,10 @@ public final class BoundsPlanTest {
         for (int n : many) {
             Check.due(n + " of two", Check.standing(x, 4, n), 0);
             Check.due("told all the same", x.where(0, 0), 0);
+            Check.due("none anywhere but where they sit", Check.standing(x, 0, 0, 1, 0, 2, 0, 3, 0, 4, 0), 1);
+            Check.due("where p sits", x.where(0, 0), 1);
             Check.due(n + " of two in each", Check.standing(x, 0, n, 1, n, 2, n, 3, n, 4, n), 0);
+            Check.due("no ways are left of the one ahead", x.where(0, 0), 0);
         }
         Check.due("status(5)", x.status(5), 0);
         OwnChair nobody = Check.made(ROW);

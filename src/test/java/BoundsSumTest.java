@@ -164,6 +164,15 @@ public final class BoundsSumTest {
 
     private static void facts() {
         Check.sentence("TEST: BOTH { or BOTH }. BOTH: FACT { and FACT }. FACT: not FACT; [ TEST ] ; all;");
+        String[] pairs = {"not all|all", "2<1|1<2", "1>2|2>1", "1=2|1=1", "[not all]|[all]", "not not 1=2|not 1=2"};
+        for (String pair : pairs) {
+            for (String other : pairs) {
+                worth("if(" + pair.split("[|]")[1] + " and " + other.split("[|]")[1] + ",1,0)", 1);
+                worth("if(" + pair.split("[|]")[1] + " and " + other.split("[|]")[0] + ",1,0)", 0);
+                worth("if(" + pair.split("[|]")[0] + " or " + other.split("[|]")[0] + ",1,0)", 0);
+                worth("if(" + pair.split("[|]")[0] + " or " + other.split("[|]")[1] + ",1,0)", 1);
+            }
+        }
         String[] facts = {"not all", "all"};
         for (int a = 0; a < 2; a++) {
             for (int b = 0; b < 2; b++) {

@@ -182,10 +182,39 @@ public final class BoundsTapeTest {
         first.seed(seed);
         Look.at(first).same("as a new object with this text", Look.at(x), BoundsTown.OCTETS);
         Check.due("undo", x.undo(), false);
+        nothingOfEarlierTowns();
         Check.due("an empty text", Check.town(x, ""), 0);
         OwnChair none = new OwnChair();
         none.seed(seed);
         Look.at(none).same("as a new object", Look.at(x), BoundsTown.OCTETS);
+    }
+
+    /** Names, ways, chairs at home, sums and a carpenter of towns that are gone: of the last one and of the one ahead of it. */
+    private static void nothingOfEarlierTowns() {
+        String full = "room a door 9 floor 5;room b door 9 floor 5;way a b takes 1;person p strong 1 chair 1 wide 5 at a;"
+            + "person q strong 1 chair 1 wide 5 at b;joined p q;slow 7;stands 8;breaks 9;carpenter b;";
+        OwnChair x = new OwnChair();
+        for (int i = 0; i < 4; i++) {
+            Check.due("the same text again", Check.town(x, full), 10);
+            Check.due("its fault", x.fault(0), 0);
+        }
+        String[] asks = {"way a b takes 1;", "carpenter b;", "person r strong 1 chair 1 wide 1 at b;", "joined p q;", "joined q p;"};
+        for (String ask : asks) {
+            Check.due("a name that is gone: " + ask, Check.town(x, "room a door 9 floor 5;" + ask), -1);
+            Check.due("its fault", x.fault(0), 3);
+        }
+        String bare = "room a door 9 floor 5;room b door 9 floor 5;person p strong 1 chair 1 wide 1 at a;"
+            + "person q strong 1 chair 1 wide 4 at a;";
+        for (int i = 0; i < 3; i++) {
+            Check.due("a text with less", Check.town(x, bare), 4);
+            Check.due("no way", x.way(0, 1), -1);
+            Check.due("nobody is joined", x.person(0, 6) + x.person(1, 6), -2);
+            Check.due("no breaks, no carpenter", x.has(2) * 10 + x.has(3), -1);
+            Check.due("a way", Check.town(x, bare + "way a b takes 3;"), 5);
+            Check.due("no slow", x.takes(0, 1, 0), 3);
+            x.go(0, 1, -1);
+            Check.due("no stands", x.stay(0, 5), 5);
+        }
     }
 
     private static void faults() {

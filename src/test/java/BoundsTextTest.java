@@ -353,13 +353,34 @@ public final class BoundsTextTest {
         Check.faultAt(1, PQ + "joined p q ^p;");
         Check.faultAt(1, "breaks ^all;");
         Check.faultAt(1, A + "carpenter a ^a;");
+        statementsThatStop();
         sumsThatStop();
+    }
+
+    /** Each STATEMENT cut at each of its words, with the ; that would end it. */
+    private static void statementsThatStop() {
+        String[] statements = {"room c door 1 floor 1", "way a b takes 1", "person r strong 1 chair 1 wide 1 at a", "joined p q",
+            "slow 1", "stands 1", "breaks 1", "carpenter a"};
+        String ahead = AB + "person p strong 1 chair 1 wide 1 at a;person q strong 1 chair 1 wide 1 at a;";
+        for (String statement : statements) {
+            Check.good(ahead + statement + ";", 5);
+            for (int n = statement.indexOf(' '); n >= 0; n = statement.indexOf(' ', n + 1)) {
+                Check.faultAt(1, ahead + statement.substring(0, n) + "^;");
+                Check.faultAt(1, ahead + statement.substring(0, n) + " ^;breaks 1;");
+            }
+            Check.faultAt(1, ahead + statement + " ^,");
+            Check.faultAt(1, ahead + statement + "; ^;");
+        }
     }
 
     private static void sumsThatStop() {
         Check.faultAt(1, "slow ^;");
         Check.faultAt(1, "slow ^+1;");
-        Check.faultAt(1, "slow 1+^;");
+        String[] signs = {"+", "-", "*", "/", "%"};
+        for (String sign : signs) {
+            Check.faultAt(1, "slow 1" + sign + "^;");
+            Check.faultAt(1, "slow 1" + sign + "^" + sign + "1;");
+        }
         Check.faultAt(1, "slow 1 ^2;");
         Check.faultAt(1, "slow 1^=1;");
         Check.faultAt(1, "slow ^all;");
@@ -385,6 +406,17 @@ public final class BoundsTextTest {
         Check.faultAt(1, "slow if([all^),1,2);");
         Check.faultAt(1, "slow if(not^,1,2);");
         Check.faultAt(1, "slow if(^or all,1,2);");
+        Check.faultAt(1, "slow if(all or^,1,2);");
+        Check.faultAt(1, "slow if(all and^,1,2);");
+        Check.faultAt(1, "slow if(all or^;");
+        Check.faultAt(1, "slow if(all and^;");
+        Check.faultAt(1, "slow if(not^;");
+        Check.faultAt(1, "slow if(1<^;");
+        Check.faultAt(1, "slow if(^;");
+        Check.faultAt(1, "slow if(all,^;");
+        Check.faultAt(1, "slow if(all,1,^;");
+        Check.faultAt(1, "slow min(^;");
+        Check.faultAt(1, "slow min(1,^;");
         Check.faultAt(1, "slow if(all and ^or all,1,2);");
         Check.faultAt(1, "slow if(all ^not all,1,2);");
         Check.faultAt(1, "slow if([1^]=1,1,2);");
@@ -420,6 +452,10 @@ public final class BoundsTextTest {
             Check.faultAt(1, place + "person^s");
             Check.faultAt(1, place + "carpen^ters");
             Check.faultAt(1, place + "carpen^te");
+            Check.faultAt(1, place + "abcdef^ghi");
+            Check.faultAt(1, place + "carpen^tes");
+            Check.faultAt(1, place + "xarpen^ter");
+            Check.faultAt(1, place + "carpem^ter");
         }
     }
 
@@ -487,6 +523,13 @@ public final class BoundsTextTest {
         Check.faultAt(5, "slow if(not [not [not (^(1))=1]],1,2);");
         Check.faultAt(5, "slow if(not [not [not [^not all]]],1,2);");
         Check.faultAt(5, "slow if(not [not [not [min^(");
+        Check.good("slow if(all,((((((1)))))),((((((1)))))));", 1);
+        Check.faultAt(5, "slow if(all,((((((^(1))))))),1);");
+        Check.faultAt(5, "slow if(all,1,((((((^(1))))))));");
+        Check.faultAt(5, "slow if(1<((((((^(1))))))),1,1);");
+        Check.faultAt(5, "slow if(((((((^(1)))))))<1,1,1);");
+        Check.faultAt(5, "slow min(1,((((((^(1))))))));");
+        Check.faultAt(5, "slow min(((((((^(1))))))),1);");
         // once closed they are open no more
         Check.good("slow (((((((1)))))))+(((((((1)))))));", 1);
         Check.good("slow min(((((((1)))))),((((((1)))))));", 1);
