@@ -299,6 +299,14 @@ public final class BoundsTextTest {
         Check.faultAt(1, "^rooma door 1");
         Check.faultAt(1, "slow if(1<2^and all,1,2);");
         Check.faultAt(1, "slow takes^2;");
+        // numbers that are the bytes of signs: what lacks its blank is not taken for the sign
+        Check.faultAt(1, "breaks 59^breaks 1;");
+        Check.faultAt(1, "slow 43^takes;");
+        Check.faultAt(1, "slow 42^takes;");
+        Check.faultAt(1, "slow (41^takes;");
+        Check.faultAt(1, "slow min(44^takes);");
+        Check.faultAt(1, "slow if(60^takes,1,2);");
+        Check.faultAt(1, "slow if([1=93^takes,1,2);");
         Check.good("slow takes*2+if(1<2 and all,1,2);", 1);
     }
 
