@@ -1,28 +1,67 @@
+import java.io.IOException;
 import java.lang.reflect.Constructor;
 import java.lang.reflect.Field;
 import java.lang.reflect.Method;
 import java.lang.reflect.Modifier;
-import java.util.Arrays;
+import java.nio.file.Files;
+import java.nio.file.Path;
 import java.util.Set;
 import java.util.TreeSet;
+import java.util.regex.Matcher;
+import java.util.regex.Pattern;
 
 /** The public face: its members and no others. Promise 1: a new object. */
 public final class FaceTest {
-    private static final String[] FACE = {
-        "int feed int int int int int", "boolean end int", "int town", "int fault int", "int has int",
-        "int letter int int int", "int room int int", "int way int int", "int person int int", "int fits int int",
-        "int takes int int int", "int go int int int", "int stay int int", "boolean mend int int", "int days int",
-        "boolean undo", "boolean seed int", "int kept int int", "int route int int int int", "int bearer int int int",
-        "int errand int", "int along int", "int seated int int", "int standing", "int where int int", "int image",
-        "int octet int", "boolean on", "int status int"};
+    private static final Pattern METHOD = Pattern.compile("(?:public )?(int|boolean) (\\w+)\\(([^)]*)\\)");
 
-    public static void main(String[] args) {
-        members();
+    public static void main(String[] args) throws IOException {
+        String shared = System.getProperty("ownchair.shared", "../shared");
+        String document = Files.readString(Path.of(shared, "DOC.md"));
+        Set<String> face = face(document);
+        members(face);
+        promises(document, face);
         newObject();
         Check.finish();
     }
 
-    private static void members() {
+    /** A method by what it answers, its name and what it is given. */
+    private static String told(Matcher method) {
+        return method.group(1) + " " + method.group(2) + method.group(3).replaceAll("(?:^|, )(\\w+) \\w+", " $1");
+    }
+
+    /** The document's own block of code. */
+    private static Set<String> face(String document) {
+        int from = document.indexOf("```java");
+        String block = document.substring(from, document.indexOf("```", from + 7));
+        Check.due("a public final class", block.contains("public final class OwnChair {"), true);
+        Check.due("its constant", block.contains("public static final int NONE = -1;"), true);
+        Check.due("its constructor", block.contains("public OwnChair();"), true);
+        Set<String> methods = new TreeSet<>();
+        Matcher method = METHOD.matcher(block);
+        while (method.find()) {
+            methods.add(told(method));
+        }
+        Check.due("methods", methods.size(), 29);
+        Check.due("members in all", block.split("public ", -1).length - 1, 29 + 3);
+        return methods;
+    }
+
+    /** Promise 1 is the constructor's, each of the others one method's. */
+    private static void promises(String document, Set<String> face) {
+        Set<String> promised = new TreeSet<>();
+        Matcher promise = Pattern.compile("## Promise (\\d+): [^`]*`([^`]*)`").matcher(document);
+        while (promise.find()) {
+            Matcher method = METHOD.matcher(promise.group(2));
+            if (method.matches()) {
+                promised.add(told(method));
+            } else {
+                Check.due("promise 1 is " + promise.group(2), Integer.parseInt(promise.group(1)), 1);
+            }
+        }
+        Check.due("each method has a promise: " + promised, promised.equals(face), true);
+    }
+
+    private static void members(Set<String> face) {
         Set<String> methods = new TreeSet<>();
         for (Method method : OwnChair.class.getDeclaredMethods()) {
             if (!Modifier.isPrivate(method.getModifiers())) {
@@ -35,7 +74,7 @@ public final class FaceTest {
                 methods.add(told.toString());
             }
         }
-        Check.due("the methods " + methods, methods.equals(new TreeSet<>(Arrays.asList(FACE))), true);
+        Check.due("the methods " + methods, methods.equals(face), true);
         int fields = 0;
         for (Field field : OwnChair.class.getDeclaredFields()) {
             fields += Modifier.isPrivate(field.getModifiers()) ? 0 : 1;
